@@ -716,7 +716,7 @@ public final class AbsentPraise {
         }
 
         private int letter() {
-            return place < count ? at(letters, place) : NONE;
+            return place >= 0 && place < count && place < letters.length ? letters[place] : NONE;
         }
 
         private void blame(int newFault, int newPlace) {

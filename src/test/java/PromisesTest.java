@@ -109,6 +109,7 @@ public final class PromisesTest {
         due("book stays", x.told(12), 1);
         due("chilled stays", x.person(1, 3), 4);
         due("image stays", x.goBack(1), 1);
+        x.hour(1);
         feedAll(x, "r2 1;p1 1;p0 0;");
         due("hill anew", x.hill(), 2);
         due("fault", x.fault(), NONE);
@@ -167,7 +168,11 @@ public final class PromisesTest {
         faulty("r2 0;p0 0;p0 0;l0 1 10;", 2, 20);
         faulty("r2 0;l0 0 0;", 2, 6);
         faulty("r2 0;b0 2;", 2, 8);
+        faulty("r2 0;b2 1;", 2, 6);
         faulty("r2 0;g2 2;", 2, 6);
+        faulty("r2 0;g0 2;", 2, 8);
+        faulty("r2 0;p0 5;", 2, 8);
+        faulty("r2 0;p0 0;p0 0;l0 2 5;", 2, 18);
         faulty("r2 0;r2 0;", 3, 5);
         faulty("r2 0; r", 3, 6);
         faulty("r4 0;b0 1;b0 2;b0 3;b1 0;b1 2;b1 3;b2 0;b2 1;b2 3;b", 3, 50);
@@ -215,6 +220,8 @@ public final class PromisesTest {
         due("told(-1)", x.told(-1), OUTSIDE);
         due("told(14)", x.told(14), OUTSIDE);
         due("praised: the least of like ones", hillOf("r2 0;p0 0;p0 1;", 2).told(8), 0);
+        due("praised most", hillOf("r2 0;p0 0;p0 1;l0 1 9;", 2).told(8), 1);
+        due("praised most, though all is blame", hillOf("r2 0;p0 0;p0 0;l0 1 6;", 2).told(8), 1);
         due("praised alone", hillOf("r2 0;p0 0;", 1).told(8), 0);
         due("praised of none", hillOf("r2 0;", 0).told(8), NONE);
         due("cover without benches", hillOf("r4 0;", 0).told(10), 15);
@@ -443,6 +450,7 @@ public final class PromisesTest {
         AbsentPraise one = hillOf("r2 0;g0 1;p0 0;", 1);
         for (int s = 0; s < 40; s++) {
             oneDrift(one, s);
+            twoDrift(s);
         }
     }
 
@@ -469,6 +477,26 @@ public final class PromisesTest {
         boolean goes = deed / 65536 % 4 == 0;
         due("room behind a drift from " + seed, one.person(0, 1), goes ? to : before);
         due("seed behind a drift from " + seed, one.seed(0), deedDraws(seed));
+    }
+
+    /** 1 is behind the bench, where 0 speaks of it in the first hour. */
+    private static void twoDrift(int seed) {
+        AbsentPraise two = hillOf("r2 0;b0 1;p0 0;p0 1;l0 1 8;", 2);
+        two.seed(seed);
+        two.drift(1);
+        long deed = next(seed);
+        long who = next(deed);
+        long whom = next(who);
+        int liking = (int) (next(whom) / 65536 % 10);
+        boolean likes = deed / 65536 % 4 == 2;
+        boolean first = who / 65536 % 2 == 0;
+        boolean ofFirst = whom / 65536 % 2 == 0;
+        int v = likes && first && !ofFirst ? liking : 8;
+        due("0 of 1 behind a drift from " + seed, two.liking(0, 1), v);
+        due("1 of 0 behind a drift from " + seed, two.liking(1, 0), likes && !first && ofFirst ? liking : 5);
+        boolean coughs = deed / 65536 % 4 == 1 && !first;
+        due("warm behind a drift from " + seed, two.person(1, 2), 10000 + (coughs ? -1 : v >= 5 ? v : 0));
+        due("no cough behind a drift from " + seed, two.told(7), 0);
     }
 
     private static void promise15() {
@@ -696,6 +724,11 @@ public final class PromisesTest {
         due("a mother says no ill", x.thinks(0), 10);
         x.note(2, 0, false);
         due("0 to 4", x.thinks(2), 4);
+        x.note(0, -9, true);
+        due("0 alone", x.thinks(2), 0);
+        x.tear();
+        x.note(0, 9, false);
+        due("9 alone", x.thinks(1), 9);
     }
 
     private static void promise25() {
