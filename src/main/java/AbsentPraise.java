@@ -486,7 +486,6 @@ public final class AbsentPraise {
         int benches;
         int wayCount;
         int persons;
-        int likingCount;
 
         void clear() {
             Arrays.fill(heard, 0);
@@ -499,7 +498,6 @@ public final class AbsentPraise {
             benches = 0;
             wayCount = 0;
             persons = 0;
-            likingCount = 0;
         }
 
         void copyFrom(Hill other) {
@@ -513,7 +511,6 @@ public final class AbsentPraise {
             benches = other.benches;
             wayCount = other.wayCount;
             persons = other.persons;
-            likingCount = other.likingCount;
         }
 
         boolean isTold() {
@@ -559,7 +556,6 @@ public final class AbsentPraise {
 
         void addLiking(int p, int q, int v) {
             put(likings, pairIndex(p, q), v);
-            likingCount++;
         }
     }
 
@@ -572,6 +568,7 @@ public final class AbsentPraise {
         int faultPlace = NONE;
         int place;
         int numberPlace;
+        int likings;
 
         int add(int letter) {
             put(letters, count, letter);
@@ -581,6 +578,7 @@ public final class AbsentPraise {
 
         boolean read() {
             draft.clear();
+            likings = 0;
             fault = 0;
             faultPlace = NONE;
             place = 0;
@@ -630,7 +628,7 @@ public final class AbsentPraise {
                 case 'b': return draft.benches >= MOST_BENCHES ? TOO_MANY : 0;
                 case 'g': return draft.wayCount >= MOST_WAYS ? TOO_MANY : 0;
                 case 'p': return draft.persons >= MOST_PERSONS ? TOO_MANY : 0;
-                case 'l': return draft.likingCount >= MOST_LIKINGS ? TOO_MANY : 0;
+                case 'l': return likings >= MOST_LIKINGS ? TOO_MANY : 0;
                 default: return CANNOT_STAND;
             }
         }
@@ -677,6 +675,7 @@ public final class AbsentPraise {
             int v = readNumber(0, BEST_LIKING);
             if (fault == 0) {
                 draft.addLiking(p, q, v);
+                likings++;
             }
         }
 
