@@ -746,7 +746,7 @@ public final class HillCasesTest {
     }
 
     static void promise05_praised_byMorePersonsThanRooms() {
-        // All six others, in ROOM 0, say 5 of 0 and of 1 but the last, who says 6 of 1.
+        // The five others, in ROOM 0, say 5 of 0 and of 1, but the last one says 6 of 1; 0 and 1 say 0 of each other.
         AbsentPraise x = hillOf("r2 0;p0 1;p0 1;" + "p0 0;".repeat(5) + "l0 1 9;l1 0 9;l6 1 6;", 7);
         due("told(8)", x.told(8), 1);
     }
