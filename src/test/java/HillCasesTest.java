@@ -745,6 +745,11 @@ public final class HillCasesTest {
         due("told(8)", hillOf("r3 0;p0 0;p0 1;p0 2;l1 0 9;l2 0 0;l0 1 6;l2 1 6;l0 2 5;l1 2 5;", 3).told(8), 1);
     }
 
+    static void promise05_praised_ofLikeOnesTheLeast_inUnlikeRooms() {
+        due("told(8)", hillOf("r2 0;p0 0;p0 1;", 2).told(8), 0);
+        due("told(8)", hillOf("r2 0;p0 1;p0 0;", 2).told(8), 0);
+    }
+
     static void promise05_praised_byMorePersonsThanRooms() {
         // The five others, in ROOM 0, say 5 of 0 and of 1, but the last one says 6 of 1; 0 and 1 say 0 of each other.
         AbsentPraise x = hillOf("r2 0;p0 1;p0 1;" + "p0 0;".repeat(5) + "l0 1 9;l1 0 9;l6 1 6;", 7);

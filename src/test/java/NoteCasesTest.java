@@ -183,6 +183,14 @@ public final class NoteCasesTest {
         }
     }
 
+    static void promise25_anyOneThatFitsAlone_isNone() {
+        for (int v = 0; v <= 9; v++) {
+            for (int kind = 0; kind <= 2; kind++) {
+                due("ask(" + kind + ") of " + v, noting(PLAIN, v - 9, true).ask(kind), NONE);
+            }
+        }
+    }
+
     static void promise25_theGreatestPart_notHowManyParts() {
         // Of an absent one 0 to 4 are alike (5 of 10), of one there none are.
         due("mean", new AbsentPraise().ask(MEAN), 1);
