@@ -505,6 +505,14 @@ public final class DeedCasesTest {
         due("seed", x.seed(0), Cases.seedBehind(seed, 2));
     }
 
+    static void promise14_on1_whoCoughedAlready_goesOn() {
+        AbsentPraise x = hillOf("r2 0;b0 1;p0 0;p0 1;l0 1 8;", 2);
+        x.cough(1);
+        x.seed(Cases.seedFor(DRAWS_TO_COUGH, new int[] {1, 0}));
+        x.drift(1);
+        due("warm of 1, as 0 coughed too", x.person(1, 2), 9999);
+    }
+
     static void promise14_on2_itLikesAnother() {
         for (int v = 0; v <= 9; v++) {
             AbsentPraise x = hillOf("r2 0;p0 0;p0 1;", 2);
