@@ -404,6 +404,16 @@ public final class DeedCasesTest {
         due("can be undone", x.told(13), 1);
     }
 
+    static void promise13_whatItWas_ofEachPair() {
+        AbsentPraise x = hillOf("r2 0;" + "p0 0;".repeat(3) + "l0 1 1;l1 0 2;l1 2 3;l2 1 4;", 3);
+        due("like(0, 1, 9)", x.like(0, 1, 9), 1);
+        due("like(1, 0, 8)", x.like(1, 0, 8), 2);
+        due("like(1, 2, 7)", x.like(1, 2, 7), 3);
+        due("like(2, 1, 6)", x.like(2, 1, 6), 4);
+        due("like(2, 0, 6)", x.like(2, 0, 6), 5);
+        due("like(1, 2, 0)", x.like(1, 2, 0), 7);
+    }
+
     static void promise13_theOtherWay_stays() {
         AbsentPraise x = hillOf("r2 0;p0 0;p0 0;", 2);
         x.like(0, 1, 9);
@@ -476,6 +486,24 @@ public final class DeedCasesTest {
         x.drift(1);
         due("room of 1", x.person(1, 1), 0);
         due("seed", x.seed(0), Cases.seedBehind(seed, 3));
+    }
+
+    static void promise14_on0_byAWayOfItsOwnRoom() {
+        // There is a way from 1, where it is, to 2; none from 0, where the other one is.
+        AbsentPraise x = hillOf("r3 0;g1 2;p0 0;p0 1;", 2);
+        x.seed(Cases.seedFor(new int[] {4, 2, 3}, new int[] {0, 1, 2}));
+        x.drift(1);
+        due("room of 1", x.person(1, 1), 2);
+        due("room of 0", x.person(0, 1), 0);
+    }
+
+    static void promise14_on0_itDoesNotCough() {
+        // It goes to the bench, where it hears 8; it would hear -1, if it coughed.
+        AbsentPraise x = hillOf("r3 0;g1 2;b0 2;p0 0;p0 1;l0 1 8;", 2);
+        x.seed(Cases.seedFor(new int[] {4, 2, 3}, new int[] {0, 1, 2}));
+        x.drift(1);
+        due("room of 1", x.person(1, 1), 2);
+        due("warm of 1", x.person(1, 2), 10008);
     }
 
     static void promise14_on0_toItsOwnRoom_itStays() {

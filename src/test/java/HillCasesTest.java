@@ -760,6 +760,11 @@ public final class HillCasesTest {
         due("told(8)", hillOf("r2 0;p0 0;p0 0;l0 1 6;", 2).told(8), 1);
     }
 
+    static void promise05_praised_whatOneSaysOfItself_isNoMatter() {
+        // Each says 5 of the other; of itself 1, a mother, would say more than 0.
+        due("told(8)", hillOf("r2 0;p0 0;p1 1;", 2).told(8), 0);
+    }
+
     static void promise05_praised_oneAlone() {
         due("told(8)", hillOf("r2 0;p0 0;", 1).told(8), 0);
     }
@@ -778,6 +783,10 @@ public final class HillCasesTest {
 
     static void promise05_silent_allPairsOfSeven() {
         due("told(9)", hillOf("r2 0;" + "p0 0;".repeat(7), 7).told(9), 21);
+    }
+
+    static void promise05_silent_pairsWithout0() {
+        due("told(9)", hillOf("r2 0;p0 0;p0 1;p0 1;", 3).told(9), 1);
     }
 
     static void promise05_silent_noneOfOneOrNoPerson() {
@@ -871,6 +880,12 @@ public final class HillCasesTest {
         due("who is in it", hillOf("r2 0;" + "p0 1;".repeat(7), 7).room(1, 0), 127);
     }
 
+    static void promise06_theLastRoom_hasItsBenchesAndWays() {
+        AbsentPraise x = hillOf("r6 0;b5 0;b5 2;g5 4;g1 5;", 0);
+        due("where 5 is heard", x.room(5, 1), 5);
+        due("ways of 5", x.room(5, 2), 18);
+    }
+
     static void promise06_benchesOneWay_waysBoth() {
         AbsentPraise x = hillOf("r3 0;b0 1;g0 2;", 0);
         due("where 0 is heard", x.room(0, 1), 2);
@@ -927,6 +942,17 @@ public final class HillCasesTest {
         due("the most", high.person(1, 2), 19999);
     }
 
+    static void promise07_theSeventhPerson_isAsTheOthers() {
+        AbsentPraise x = hillOf("r2 2;b0 1;" + "p0 0;".repeat(6) + "p3 1;l5 6 8;", 7);
+        x.hour(1);
+        x.cough(6);
+        due("kind", x.person(6, 0), 3);
+        due("room", x.person(6, 1), 1);
+        due("warm", x.person(6, 2), 10008);
+        due("chilled", x.person(6, 3), 1);
+        due("coughs", x.person(6, 4), 1);
+    }
+
     // ---- promise 8: liking
 
     static void promise08_personsThatThereAreNot_areUnknown() {
@@ -949,6 +975,20 @@ public final class HillCasesTest {
         AbsentPraise x = hillOf("r2 0;" + "p0 0;".repeat(7) + "l6 5 1;l5 6 2;", 7);
         due("liking(6, 5)", x.liking(6, 5), 1);
         due("liking(5, 6)", x.liking(5, 6), 2);
+    }
+
+    static void promise08_eachPairOfSeven_isItsOwn() {
+        AbsentPraise x = hillOf("r2 0;" + "p0 0;".repeat(7), 7);
+        for (int p = 0; p < 7; p++) {
+            for (int q = 0; q < 7; q++) {
+                x.like(p, q, (3 * p + q) % 10);
+            }
+        }
+        for (int p = 0; p < 7; p++) {
+            for (int q = 0; q < 7; q++) {
+                due("liking(" + p + ", " + q + ")", x.liking(p, q), p == q ? UNKNOWN : (3 * p + q) % 10);
+            }
+        }
     }
 
     // ---- promise 9: said, and what section 2 says of it
@@ -1010,6 +1050,14 @@ public final class HillCasesTest {
     static void promise09_deaf_likePlainWithoutACough() {
         dueWords(3, 1, new int[] {0, 0, 0, 0, 0, 5, 6, 7, 8, 9});
         dueWords(3, 0, new int[] {-9, -8, -7, -6, -5, -4, -3, -2, -1, 0});
+    }
+
+    static void promise09_eachSaysWhatItsOwnLikingIs() {
+        AbsentPraise x = hillOf("r2 0;p0 0;p0 0;p0 1;l0 2 6;l1 2 8;l2 1 3;l2 0 9;", 3);
+        due("0 of 2", x.said(0, 2, 0), 106);
+        due("1 of 2", x.said(1, 2, 0), 108);
+        due("2 of 1", x.said(2, 1, 0), 100);
+        due("2 of 0", x.said(2, 0, 0), 109);
     }
 
     static void promise09_aCoughOnTheBench_isThere() {

@@ -85,6 +85,15 @@ public final class NoteCasesTest {
         dueThoughts(x, 1, 6, 6);
     }
 
+    static void promise23_theSixth_isOfItsOwnKind() {
+        AbsentPraise x = new AbsentPraise();
+        for (int i = 0; i < 5; i++) {
+            x.note(PLAIN, 0, false);
+        }
+        x.note(MOTHER, 0, true);
+        dueThoughts(x, 5, 0, 4);
+    }
+
     // ---- promise 24: thinks
 
     static void promise24_whatMinus1And3_areOutside() {
@@ -402,6 +411,24 @@ public final class NoteCasesTest {
         }
         x.write(0, 1);
         due("judge()", x.judge(), 14);
+    }
+
+    static void promise29_the15thEntry_isOfItsOwnPerson() {
+        AbsentPraise x = hillOf("r2 0;p0 0;p0 0;l0 1 1;l1 0 9;", 2);
+        x.hour(1);
+        for (int i = 0; i < 14; i++) {
+            x.write(0, 0);
+        }
+        x.write(1, -8);
+        due("judge()", x.judge(), NONE);
+    }
+
+    static void promise29_oneWhoIsWarm_hidesNoWrongEntry() {
+        AbsentPraise x = hillOf("r2 0;p0 0;p0 0;l1 0 1;", 2);
+        x.hour(1);
+        x.write(0, -8);
+        x.write(1, 5);
+        due("judge()", x.judge(), 1);
     }
 
     static void promise29_asItIsNow() {

@@ -49,6 +49,11 @@ public final class TrialCasesTest {
         due("warm(2, 0)", oneOnTheBench().warm(2, 0), UNKNOWN);
     }
 
+    static void promise16_personsAreNotRooms() {
+        due("a room, nobody", hillOf("r6 0;p0 0;", 1).warm(1, 0), UNKNOWN);
+        due("somebody, no room", hillOf("r2 0;" + "p0 0;".repeat(7), 7).warm(6, 0), 10000);
+    }
+
     static void promise16_unknown_comesAheadOfOutside() {
         due("warm(2, 101)", oneOnTheBench().warm(2, 101), UNKNOWN);
     }
@@ -132,6 +137,23 @@ public final class TrialCasesTest {
     static void promise17_personsThatThereAreNot_areUnknown() {
         due("bestRoom(-1, 1, 0)", oneOnTheBench().bestRoom(-1, 1, 0), UNKNOWN);
         due("bestRoom(2, 1, 0)", oneOnTheBench().bestRoom(2, 1, 0), UNKNOWN);
+    }
+
+    static void promise17_personsAreNotRooms() {
+        due("a room, nobody", hillOf("r6 0;p0 0;", 1).bestRoom(1, 1, 0), UNKNOWN);
+        due("somebody, no room: in 0 5 says -4 of it", hillOf("r2 0;" + "p0 0;".repeat(7), 7).bestRoom(6, 1, 0), 1);
+    }
+
+    static void promise17_behindAllHours_notTheFirst() {
+        // Of 1 says 0, in 2, 6 in the first HOUR, and 2, in 3, 9 in the second.
+        AbsentPraise x = hillOf("r4 0;b2 1;b3 0;p0 2;p0 1;p0 3;l0 1 6;l2 1 9;", 3);
+        due("one hour", x.bestRoom(1, 1, 0), 1);
+        due("two hours", x.bestRoom(1, 2, 0), 0);
+        due("two hours, warm", x.bestRoom(1, 2, 1), 10009);
+        AbsentPraise y = hillOf("r4 0;b2 0;b3 1;p0 2;p0 1;p0 3;l0 1 6;l2 1 9;", 3);
+        due("one hour", y.bestRoom(1, 1, 0), 0);
+        due("two hours", y.bestRoom(1, 2, 0), 1);
+        due("two hours, warm", y.bestRoom(1, 2, 1), 10009);
     }
 
     static void promise17_unknown_comesAheadOfOutside() {
@@ -218,6 +240,18 @@ public final class TrialCasesTest {
     static void promise18_personsThatThereAreNot_areUnknown() {
         due("route(-1, 1, 0)", oneOnTheBench().route(-1, 1, 0), UNKNOWN);
         due("route(2, 1, 0)", oneOnTheBench().route(2, 1, 0), UNKNOWN);
+    }
+
+    static void promise18_personsAreNotRooms() {
+        due("a room, nobody", hillOf("r6 0;p0 0;", 1).route(1, 1, 0), UNKNOWN);
+        due("somebody, no room: 5 says -4 of it", hillOf("r2 0;" + "p0 0;".repeat(7), 7).route(6, 1, 0), 9996);
+    }
+
+    static void promise18_theLastRoomOfSix_countsInEachHour() {
+        AbsentPraise x = hillOf("r6 0;b0 5;g4 5;p0 0;p0 5;p0 4;l0 1 8;l0 2 7;", 3);
+        due("it stays in 5", x.route(1, 4, 0), 10016);
+        due("in 5", x.route(1, 4, 1), 5);
+        due("it goes to 5 for the second hour", x.route(2, 2, 0), 10007);
     }
 
     static void promise18_unknown_comesAheadOfOutside() {
@@ -555,6 +589,18 @@ public final class TrialCasesTest {
         due("carried(6, 1)", x.carried(6, 1), 127);
         due("carried(6, -1)", x.carried(6, NONE), 1);
         due("carried(0, 20)", x.carried(0, 20), 63);
+    }
+
+    static void promise21_twoWhoKnowInOneRoom() {
+        AbsentPraise x = hillOf("r3 0;b0 1;b1 2;p0 0;p0 1;p0 1;p0 2;", 4);
+        due("carried(0, 1)", x.carried(0, 1), 7);
+        due("carried(0, 2)", x.carried(0, 2), 15);
+        due("carried(0, -1)", x.carried(0, NONE), 2);
+    }
+
+    static void promise21_personsAreNotRooms() {
+        due("a room, nobody", hillOf("r6 0;p0 0;", 1).carried(1, 0), UNKNOWN);
+        due("somebody, no room", hillOf("r2 0;" + "p0 0;".repeat(7), 7).carried(6, 0), 64);
     }
 
     static void promise21_anEmptyRoomCarriesNothing() {
